@@ -1,0 +1,69 @@
+/** Counts the answers that are not as due, and writes texts into an object. */
+final class Check {
+    private int asked;
+    private int wrong;
+
+    void due(String call, long got, long want) {
+        asked++;
+        if (got != want) {
+            wrong++;
+            System.out.println(call + " answered " + got + ", due is " + want);
+        }
+    }
+
+    void isTrue(String what, boolean holds) {
+        asked++;
+        if (!holds) {
+            wrong++;
+            System.out.println("not so: " + what);
+        }
+    }
+
+    int wrongOnes() {
+        return wrong;
+    }
+
+    void end() {
+        System.out.println(asked + " answers, " + wrong + " wrong");
+        if (wrong != 0 || asked == 0) {
+            System.exit(1);
+        }
+    }
+
+    /** Bytes from a place on, eight at most, as one number; the characters are 0 .. 255. */
+    static long pack(String text, int from) {
+        long bytes = 0;
+        for (int i = from; i < text.length() && i < from + 8; i++) {
+            bytes |= (long) (text.charAt(i) & 255) << 8 * (i - from);
+        }
+        return bytes;
+    }
+
+    static void write(DutiesHat x, String text) {
+        for (int i = 0; i < text.length(); i += 8) {
+            x.write(pack(text, i), Math.min(8, text.length() - i));
+        }
+    }
+
+    /** Writes a text and has it done. */
+    static DutiesHat tell(DutiesHat x, String text) {
+        x.erase();
+        write(x, text);
+        int lines = x.hall();
+        if (lines < 1) {
+            throw new IllegalStateException("the text was refused with " + lines + ": " + text);
+        }
+        return x;
+    }
+
+    static DutiesHat told(String text) {
+        return tell(new DutiesHat(), text);
+    }
+
+    /** The place of a text's fault in a new object of four monks. */
+    static int faultOf(String text) {
+        DutiesHat x = new DutiesHat();
+        write(x, text);
+        return x.fault();
+    }
+}
