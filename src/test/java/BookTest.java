@@ -11,6 +11,7 @@ public final class BookTest {
         namedInOrder();
         keepAndBack();
         keptBook();
+        keptBooksApart();
         keptDraw();
         keepRefused();
         count();
@@ -168,6 +169,19 @@ public final class BookTest {
         due("back(0) again", x.back(0), 2);
         due("often(0, 0) again", x.often(0, 0), 1);
         due("often(0, 1) again", x.often(0, 1), 1);
+    }
+
+    private static void keptBooksApart() {
+        DutiesHat x = Check.told("hall 2");
+        x.keep(0);
+        dawns(x, 0);
+        x.keep(1);
+        x.back(0);
+        dawns(x, 1);
+        due("often(0, 1)", x.often(0, 1), 1);
+        x.back(1);
+        due("often(0, 1) behind back", x.often(0, 1), 0);
+        due("often(0, 0) behind back", x.often(0, 0), 1);
     }
 
     private static void keptDraw() {

@@ -109,7 +109,13 @@ public final class DawnTest {
         due("draw(1) where none is lawful", x.draw(1), NOT);
         due("draw(0) where none is lawful", x.draw(0), OUTSIDE);
         due("count(4)", x.count(4), 0);
-        // One of 5040 is lawful; which of 50 it would be shows whether exactly 50 are tried.
+        // Of these the 50th draw by 281 is the first that is lawful, by 804 the 51st.
+        Check.tell(x, "hall 4;skill 0 1 0;skill 0 2 0;skill 0 3 0;skill 1 0 0;skill 1 2 0;skill 1 3 0");
+        due("draw(281)", x.draw(281), 50);
+        x.lay(1);
+        due("draw(804)", x.draw(804), NOT);
+        due("today(0) is as it was", x.today(0), 1);
+        // One of seven draws is lawful.
         StringBuilder text = new StringBuilder("hall 7");
         for (int d = 1; d < 7; d++) {
             text.append(";skill 0 ").append(d).append(" 0");
@@ -124,7 +130,6 @@ public final class DawnTest {
             due("draw(" + z + ") of one in seven", x.draw(z), tries);
         }
         CHECK.isTrue("a seed needs many draws", most > 25);
-        x.lay(0);
         Check.tell(x, "hall 3;holy 0;holy 1;holy 2");
         x.lay(3);
         due("nothing changes by a refusal", x.draw(-5), OUTSIDE);

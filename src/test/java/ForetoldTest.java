@@ -67,6 +67,18 @@ public final class ForetoldTest {
         dueEnds("pairs", x, 1, 59, end);
         x.lay(5039);
         dueEnds("the last draw", x, 1, 35, 5039);
+        // Two ways down to draw 0.
+        Check.tell(x, "hall 4;ring 2;like 0 0 9;like 1 1 9;like 2 2 9;like 3 3 9");
+        x.lay(7);
+        dueEnds("two ways to one end", x, 1, 36, 0);
+        // The ends 15 and 1 are alike glad.
+        Check.tell(x, "hall 4;ring 2;like 0 0 8;like 0 2 9;like 2 0 7;like 2 3 8;like 3 2 6");
+        x.lay(21);
+        dueEnds("alike glad, the lesser behind", x, 2, 27, 1);
+        // The end 10 has 31, the end 5 has 29.
+        Check.tell(x, "hall 4;ring 2;like 0 0 7;like 0 1 7;like 0 3 6;like 1 3 8;like 2 0 9;like 2 2 9;like 3 2 7");
+        x.lay(13);
+        dueEnds("the lesser is less glad", x, 2, 31, 10);
     }
 
     private static void endsRefused() {
@@ -103,6 +115,13 @@ public final class ForetoldTest {
         Check.tell(x, "hall 3;ring 2;like 0 1 9;like 0 2 6;like 2 0 6");
         x.lay(0);
         due("hint(0) of what can be had", x.hint(0), 2);
+        // The lesser duty comes by the later trade: alike liked it is told, less liked it is not.
+        Check.tell(x, "hall 3;ring 2;like 0 1 9;like 0 0 9;like 1 2 9;like 2 2 9");
+        x.lay(5);
+        due("hint(0), alike liked", x.hint(0), 0);
+        Check.tell(x, "like 0 0 8");
+        x.lay(5);
+        due("hint(0), less liked", x.hint(0), 1);
     }
 
     private static void hintRefused() {
@@ -220,6 +239,7 @@ public final class ForetoldTest {
         DutiesHat x = Check.told("hall 2;holy 0;skill 0 0 9");
         due("lawful() at first", x.lawful(), 2);
         due("mean(3, 0, 0) at first", x.mean(3, 0, 0), 12);
+        due("odds(0, 0, 2, 1) at first", x.odds(0, 0, 2, 1), 2);
         x.keep(0);
         x.lay(0);
         due("lawful() behind lay", x.lawful(), 2);
@@ -227,6 +247,7 @@ public final class ForetoldTest {
         due("lawful() behind dawn", x.lawful(), 1);
         due("mean(3, 0, 0) behind dawn", x.mean(3, 0, 0), 10);
         due("odds(0, 1, 2, 1) behind dawn", x.odds(0, 1, 2, 1), 1);
+        due("odds(0, 0, 2, 0) behind dawn", x.odds(0, 0, 2, 0), 0);
         x.back(0);
         due("lawful() behind back", x.lawful(), 2);
         due("mean(3, 0, 0) behind back", x.mean(3, 0, 0), 12);

@@ -7,6 +7,7 @@ public final class ToldTest {
         newObject();
         write();
         erase();
+        erasedBytesAreGone();
         soundTexts();
         faultyTexts();
         faultAtTheEnd();
@@ -82,6 +83,22 @@ public final class ToldTest {
         due("count(1)", x.count(1), 3);
     }
 
+    private static void erasedBytesAreGone() {
+        String[][] texts = {{"hallo 4", "hall", "4"}, {"ring 2", "ring ", "5"}, {"ring 22", "ring 2", "-1"},
+            {"ring 2;x", "ring 2", "-1"}, {"skill 0 0 3", "skill 0 0 ", "10"}};
+        for (String[] row : texts) {
+            DutiesHat x = new DutiesHat();
+            Check.write(x, row[0]);
+            x.erase();
+            Check.write(x, row[1]);
+            due("fault of '" + row[1] + "' behind '" + row[0] + "'", x.fault(), Integer.parseInt(row[2]));
+        }
+        String letters = "x".repeat(200);
+        due("fault of 200 letters", Check.faultOf(letters), 0);
+        due("fault of 200 digits", Check.faultOf("ring " + "0".repeat(195)), 5);
+        due("fault of 200 bytes with ; at the end", Check.faultOf("ring 2" + " ".repeat(193) + ";"), 200);
+    }
+
     private static void soundTexts() {
         String[] sound = {"hall 2", "hall 7", "hall 07", "skill 3 3 9", "skill 0 0 0", "like 3 3 9", "like 00 00 00",
                 "plain 3", "tiring 0", "holy 3", "sweet 3", "ring 0", "ring 2", "ring 3", "ring 03", "did 3 3",
@@ -101,7 +118,8 @@ public final class ToldTest {
             {"plain 4", 6}, {"tiring 4", 7}, {"holy 4", 5}, {"sweet 4", 6}, {"sweet 0 0", 8},
             {"ring 1", 5}, {"ring 4", 5}, {"ring 01", 5}, {"ring 12", 5}, {"ring 000", 5},
             {"did 4 0", 4}, {"did 0 4", 6}, {"did 0 0 0", 8}, {"did 0 99", 6},
-            {"halls 4", 0}, {"hal 4", 0}, {"Hall 4", 0}, {"hALL 4", 0}, {"4", 0}, {";", 0}, {"\t", 0}, {"\0", 0},
+            {"halls 4", 0}, {"halla 4", 0}, {"hallz 4", 0}, {"xall 4", 0}, {"hall`4", 4}, {"hall{4", 4}, {"hall 4/", 6},
+            {"hall 4:", 6}, {"hall /", 5}, {"hall :", 5}, {"hal 4", 0}, {"Hall 4", 0}, {"hALL 4", 0}, {"4", 0}, {";", 0}, {"\t", 0}, {"\0", 0},
             {"  hal 4", 2}, {"hall 4 ring", 7}, {"hall 4x", 6}, {"hall 4,", 6}, {"hall 4;;", 7}, {"hall 4;4", 7},
             {"hall 4 ; x", 9}, {"hall\t4", 4}, {"ringring 2", 0}, {"ring 2 2", 7}, {"ring 2:ring 2", 6},
             {"hall 2;did 2 0", 11}, {"hall 2;did 0 2", 13}, {"hall 2;hall 7;did 6 7", 20}, {"did 3 3;hall 3;did 3 3", 19},
@@ -285,6 +303,9 @@ public final class ToldTest {
                 due("as(" + d + ", " + kind + ")", x.as(d, kind), due[d][kind]);
             }
         }
+        // Monks of an earlier hall are gone.
+        DutiesHat less = Check.tell(Check.told("hall 7"), "hall 3");
+        due("as(0, 0) of three behind seven", less.as(0, 0), 3);
         due("as(-1, 0)", x.as(-1, 0), UNKNOWN);
         due("as(4, 0)", x.as(4, 0), UNKNOWN);
         due("as(4, 9)", x.as(4, 9), UNKNOWN);
