@@ -50,7 +50,7 @@ public final class DutiesHat {
     private final Scroll scroll = new Scroll();
     private final House house = new House();
     private final Days days = new Days();
-    private final Days[] images = new Days[MOST_KEPT];
+    private final Days[] images = {new Days(), new Days()};
     private final boolean[] imaged = new boolean[MOST_KEPT];
     private final Rings rings = new Rings(house);
     /** For rings of none, of two, of three. */
@@ -60,9 +60,6 @@ public final class DutiesHat {
     private final int[] lots = new int[MOST_MONKS];
 
     public DutiesHat() {
-        for (int k = 0; k < MOST_KEPT; k++) {
-            images[k] = new Days();
-        }
         house.open(FIRST_MONKS);
         days.begin(house.told);
         rings.look(days.yesterday);
@@ -446,6 +443,7 @@ public final class DutiesHat {
                     return tokenStart;
                 }
             }
+            // Behind the last line that there may be, the ; itself cannot stand.
             return tokenStart;
         }
 
