@@ -19,9 +19,9 @@ public final class RandomRunsTest {
 
     public static void main(String[] args) {
         Check all = new Check();
-        for (int seed = 0; seed < 400; seed++) {
+        for (int seed = 0; seed < 600; seed++) {
             RandomRunsTest run = new RandomRunsTest(seed, seed % 20 == 0 ? 7 : 5);
-            run.go(seed % 20 == 0 ? 60 : 400);
+            run.go(seed % 20 == 0 ? 60 : 220);
             all.isTrue("run by seed " + seed, run.check.wrongOnes() == 0);
         }
         all.end();

@@ -5,7 +5,10 @@ import java.util.Comparator;
 import java.util.List;
 import java.util.Random;
 
-/** Calls with any arguments in any state: none throws, and what is refused changes nothing. */
+/**
+ * Calls with any arguments in any state: none throws, and what is refused changes nothing. To see the latter an object
+ * is asked more than 512 times: the document leaves free what it answers then, and this class answers on.
+ */
 public final class WildTest {
     private static final int[] WILD = {Integer.MIN_VALUE, Integer.MIN_VALUE + 1, -1000, -8, -6, -5, -4, -3, -2, -1, 0, 1,
         2, 3, 4, 5, 6, 7, 8, 9, 10, 16, 17, 23, 24, 119, 120, 719, 720, 1000, 1001, 5039, 5040, 9999, 10000,
