@@ -2,20 +2,31 @@
 final class Check {
     private int asked;
     private int wrong;
+    private String sentence = "";
+    private int askedBySentence = 1;
+
+    /** Names the sentence of the document that the answers from here on are held to. */
+    void says(String of) {
+        isTrue("something is asked of a sentence", askedBySentence > 0);
+        askedBySentence = 0;
+        sentence = "(" + of + ") ";
+    }
 
     void due(String call, long got, long want) {
         asked++;
+        askedBySentence++;
         if (got != want) {
             wrong++;
-            System.out.println(call + " answered " + got + ", due is " + want);
+            System.out.println(sentence + call + " answered " + got + ", due is " + want);
         }
     }
 
     void isTrue(String what, boolean holds) {
         asked++;
+        askedBySentence++;
         if (!holds) {
             wrong++;
-            System.out.println("not so: " + what);
+            System.out.println(sentence + "not so: " + what);
         }
     }
 
