@@ -27,6 +27,7 @@ public final class BookEdgesTest {
         backNothingKept();
         backSinceTheLastText();
         backAsTheyWere();
+        backBook();
         backAgain();
         backFromFull();
         backTouchesNothingElse();
@@ -463,6 +464,31 @@ public final class BookEdgesTest {
         due("often(0, 0), empty", x.often(0, 0), 0);
         due("monk(0, 0, 2)", x.monk(0, 0, 2), 1);
         due("lawful()", x.lawful(), 6);
+    }
+
+    private static void backBook() {
+        says("25: THE BOOK is as it was kept, dawn by dawn");
+        DutiesHat x = Check.told("hall 2");
+        dawns(x, 0, 3);
+        x.keep(0);
+        DutiesHat y = Check.told("hall 2");
+        y.keep(0);
+        dawns(y, 0, 2);
+        y.keep(1);
+        y.back(0);
+        dawns(y, 1, 2);
+        due("often(0, 1), another book", y.often(0, 1), 2);
+        due("back(1)", y.back(1), 2);
+        due("often(0, 0)", y.often(0, 0), 2);
+        due("often(0, 1)", y.often(0, 1), 0);
+        due("tail(0, 0, 1)", y.tail(0, 0, 1), 4);
+        due("named(251)", y.named(251), 0);
+        dawns(x, 1, 13);
+        due("often(0, 1), full", x.often(0, 1), 13);
+        due("back(0)", x.back(0), 3);
+        due("often(0, 1), back", x.often(0, 1), 0);
+        dawns(x, 0, 13);
+        due("often(0, 0), full anew", x.often(0, 0), 16);
     }
 
     private static void backAgain() {

@@ -38,6 +38,7 @@ public final class DawnEdgesTest {
         settleNone();
         settleFirst();
         settleTillNone();
+        settleLongest();
         settleByNone();
         settleNothingDrawn();
         dawnSixteen();
@@ -491,6 +492,22 @@ public final class DawnEdgesTest {
         due("ends(0)", x.ends(0), 1);
         due("hint(0)", x.hint(0), NONE);
         due("trade(0, 1, NONE)", x.trade(0, 1, NONE), NOT);
+    }
+
+    private static void settleLongest() {
+        says("12: again and again: by many trades");
+        DutiesHat x = Check.tellLikings(Check.told("hall 7;ring 2"), new int[][] {{0, 1, 4, 5, 7, 9, 1},
+            {4, 1, 4, 5, 6, 2, 8}, {1, 3, 1, 6, 1, 6, 8}, {5, 6, 3, 1, 9, 5, 8}, {5, 9, 7, 2, 0, 7, 9},
+            {7, 6, 8, 4, 3, 0, 6}, {6, 4, 5, 2, 1, 4, 3}});
+        x.lay(0);
+        due("settle() by 2", x.settle(), 14);
+        dueRow("settle() by 2", x, 5, 6, 3, 4, 1, 2, 0);
+        x = Check.tellLikings(Check.told("hall 7;ring 3"), new int[][] {{0, 2, 3, 4, 7, 8, 9}, {5, 1, 4, 7, 8, 9, 2},
+            {4, 5, 2, 8, 3, 6, 8}, {5, 3, 9, 2, 4, 5, 7}, {9, 9, 5, 0, 1, 7, 4}, {4, 8, 5, 4, 9, 5, 6},
+            {9, 6, 8, 9, 4, 5, 3}});
+        x.lay(0);
+        due("settle() by 3", x.settle(), 9);
+        dueRow("settle() by 3", x, 6, 5, 3, 2, 1, 4, 0);
     }
 
     private static void settleByNone() {

@@ -12,6 +12,10 @@ public final class ForetoldEdgesTest {
     /** From draw 0 by rings of two 0 trades with 1, or with 2: the ends 2 and 5. */
     private static final String FORK = "hall 3;ring 2;like 0 1 8;like 0 2 8;like 1 0 6;like 2 0 6";
 
+    /** Each of seven likes any other duty more than its own by draw 0. */
+    private static final String NONE_AT_ITS_OWN =
+            "hall 7;like 0 0 0;like 1 1 0;like 2 2 0;like 3 3 0;like 4 4 0;like 5 5 0;like 6 6 0";
+
     public static void main(String[] args) {
         endsWhat();
         endsOfTodayAlone();
@@ -20,6 +24,7 @@ public final class ForetoldEdgesTest {
         endsGreatestGladness();
         endsLeastNumber();
         endsEachOnce();
+        endsOfManyTrades();
         endsByRing();
         hintMonk();
         hintNothingDrawn();
@@ -27,6 +32,7 @@ public final class ForetoldEdgesTest {
         hintMostLiked();
         hintLeastOfSeveral();
         hintByRing();
+        hintOfManyTrades();
         lawfulAllOneNone();
         lawfulByYesterday();
         meanRing();
@@ -40,6 +46,7 @@ public final class ForetoldEdgesTest {
         oddsOfNone();
         oddsNeverAndAlways();
         oddsSettled();
+        toldAnew();
         weekOfOneToSeven();
         weekFiveMonksAtMost();
         weekNone();
@@ -133,6 +140,9 @@ public final class ForetoldEdgesTest {
         says("15: the greatest GLADNESS of them");
         dueEnds("by 2 it is one more", laid(FORK + ";like 2 0 7", 0), 2, 20, 5);
         dueEnds("by 1 it is one more", laid(FORK + ";like 1 0 7", 0), 2, 20, 2);
+        // The ends are 10 with 31, and by more trades 5 with 29.
+        DutiesHat x = laid("hall 4;ring 2;like 0 0 7;like 0 1 7;like 0 3 6;like 1 3 8;like 2 0 9;like 2 2 9;like 3 2 7", 13);
+        dueEnds("the lesser number is less glad", x, 2, 31, 10);
     }
 
     private static void endsLeastNumber() {
@@ -150,6 +160,19 @@ public final class ForetoldEdgesTest {
         x = laid("hall 7;ring 2;like 0 1 6;like 1 0 6;like 2 3 6;like 3 2 6;like 4 5 6;like 5 4 6", 0);
         due("three pairs in any order", x.ends(0), 1);
         due("three pairs in any order: ends(1)", x.ends(1), 41);
+    }
+
+    private static void endsOfManyTrades() {
+        says("15: by any WANTED ones, where all that can be are WANTED");
+        // Each of seven likes its own least: 70 trades by 3, 21 by 2. Of them two, or three, can be made, one is left.
+        dueEnds("by 3", laid(NONE_AT_ITS_OWN, 0), 280, 30, 147);
+        dueEnds("by 2", laid(NONE_AT_ITS_OWN + ";ring 2", 0), 105, 30, 127);
+        dueEnds("by 0", laid(NONE_AT_ITS_OWN + ";ring 0", 0), 1, 0, 0);
+        DutiesHat x = Check.tellLikings(Check.told("hall 7;ring 2"), new int[][] {{0, 1, 4, 5, 7, 9, 1},
+            {4, 1, 4, 5, 6, 2, 8}, {1, 3, 1, 6, 1, 6, 8}, {5, 6, 3, 1, 9, 5, 8}, {5, 9, 7, 2, 0, 7, 9},
+            {7, 6, 8, 4, 3, 0, 6}, {6, 4, 5, 2, 1, 4, 3}});
+        x.lay(0);
+        dueEnds("of 1918 draws", x, 73, 55, 4293);
     }
 
     private static void endsByRing() {
@@ -229,6 +252,18 @@ public final class ForetoldEdgesTest {
             due("fork by 3: hint(" + m + ")", laid(FORK + ";ring 3", 0).hint(m), byNone[m]);
             due("round by 3: hint(" + m + ")", laid(ROUND, 0).hint(m), round[m]);
             due("round by 2: hint(" + m + ")", laid(ROUND + ";ring 2", 0).hint(m), byNone[m]);
+        }
+    }
+
+    private static void hintOfManyTrades() {
+        says("16: of all DUTIES that it would have, where all that can be are WANTED");
+        for (String ring : new String[] {";ring 2", ";ring 3"}) {
+            DutiesHat x = laid(NONE_AT_ITS_OWN + ring, 0);
+            for (int m = 0; m < 7; m++) {
+                due("hint(" + m + ")" + ring, x.hint(m), m == 0 ? 1 : 0);
+                DutiesHat last = laid(NONE_AT_ITS_OWN + ring + ";like " + m + " " + (m == 6 ? 5 : 6) + " 6", 0);
+                due("hint(" + m + ")" + ring + ", the last is liked most", last.hint(m), m == 6 ? 5 : 6);
+            }
         }
     }
 
@@ -412,6 +447,34 @@ public final class ForetoldEdgesTest {
                 due("odds(0, 1, " + row[0] + ", 1)", x.odds(0, 1, row[0], 1), row[2]);
             }
             due("odds(0, 0, 2, 0)", x.odds(0, 0, 2, 0), 0);
+        }
+    }
+
+    private static void toldAnew() {
+        says("17 to 19: by what is told and done now, whatever was asked ahead");
+        DutiesHat x = Check.told("hall 2;holy 0;skill 0 0 9;like 0 0 1");
+        dueAll("at first", x, 2, 12, 8);
+        x.keep(0);
+        x.lay(0);
+        dueAll("drawn", x, 2, 12, 8);
+        x.dawn();
+        dueAll("done", x, 1, 10, 10);
+        due("odds(0, 0, 3, 0), done", x.odds(0, 0, 3, 0), 0);
+        x.back(0);
+        dueAll("back", x, 2, 12, 8);
+        due("odds(0, 0, 3, 1), back", x.odds(0, 0, 3, 1), 2);
+        Check.tell(x, "skill 1 0 0");
+        dueAll("told", x, 1, 14, 6);
+        due("odds(0, 0, 3, 1), told", x.odds(0, 0, 3, 1), 1);
+        Check.tell(x, "hall 2");
+        dueAll("as at first", x, 2, 10, 10);
+    }
+
+    private static void dueAll(String when, DutiesHat x, int draws, int work, int glad) {
+        due("lawful(), " + when, x.lawful(), draws);
+        for (int ring : RINGS) {
+            due("mean(" + ring + ", 0, 0), " + when, x.mean(ring, 0, 0), work);
+            due("mean(" + ring + ", 1, 0), " + when, x.mean(ring, 1, 0), glad);
         }
     }
 

@@ -26,9 +26,12 @@ public final class ToldEdgesTest {
         numbersOfOneOrTwoDigits();
         tokens();
         blanksAlone();
+        words();
         tokenThatCannotStand();
         tokenTooMany();
         endTooSoon();
+        endOfTwoHundred();
+        erasedBytesAreGone();
         fourteenLines();
         firstFault();
         faultChangesNothing();
@@ -372,6 +375,21 @@ public final class ToldEdgesTest {
         dueFault("ring 2\u00a0", 6);
     }
 
+    private static void words() {
+        says("4: each is one of");
+        for (String line : LINES) {
+            int letters = line.indexOf(' ');
+            for (int i = 0; i < letters; i++) {
+                char other = line.charAt(i) == 'q' ? 'z' : 'q';
+                dueFault(line.substring(0, i) + other + line.substring(i + 1), 0);
+                dueFault(line.substring(0, i) + line.substring(i + 1), 0);
+                dueFault(line.substring(0, i) + other + line.substring(i), 0);
+            }
+            dueFault(line, NONE);
+            dueFault(line.substring(0, letters) + "s" + line.substring(letters), 0);
+        }
+    }
+
     private static void tokenThatCannotStand() {
         says("4: at the first TOKEN that cannot stand there");
         String[] noVerb = {"x", "ringg", "hal", "duty", "kind", "5", "00", ";", ",", "\0", "\u00ff", "A"};
@@ -430,6 +448,34 @@ public final class ToldEdgesTest {
         // A word cut off is another word: it cannot stand, where it begins.
         dueFault("hal", 0);
         dueFault("ring 2;hal", 7);
+    }
+
+    private static void endOfTwoHundred() {
+        says("4: a TOKEN that ends with the 200th byte");
+        dueFault("x".repeat(200), 0);
+        dueFault("9".repeat(200), 0);
+        dueFault(blanks(196) + "hall", 200);
+        dueFault(blanks(196) + "hals", 196);
+        dueFault("did 0" + blanks(194) + "3", NONE);
+        dueFault("did 0" + blanks(194) + "4", 199);
+        dueFault("did 0" + blanks(193) + "03", NONE);
+        dueFault("did 0" + blanks(192) + "003", 197);
+        dueFault("did 0 0" + blanks(192) + ";", 200);
+        dueFault("did 0 0" + blanks(192) + ",", 199);
+    }
+
+    private static void erasedBytesAreGone() {
+        says("4: behind the length nothing is read");
+        String[][] texts = {{"halls 4", "hall"}, {"hall 4", "hall"}, {"hall 42", "hall 4"}, {"hall 4;x", "hall 4"},
+            {"hall 4 x", "hall 4"}, {"skill 0 0 9", "skill 0 0 "}, {"hall 4;ring 2", "hall 4;"}};
+        int[] due = {4, 4, NONE, NONE, NONE, 10, 7};
+        for (int i = 0; i < texts.length; i++) {
+            DutiesHat x = new DutiesHat();
+            Check.write(x, texts[i][0]);
+            x.erase();
+            Check.write(x, texts[i][1]);
+            due("fault of '" + texts[i][1] + "' where '" + texts[i][0] + "' was", x.fault(), due[i]);
+        }
     }
 
     private static void fourteenLines() {

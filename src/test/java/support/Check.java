@@ -67,6 +67,19 @@ final class Check {
         return x;
     }
 
+    /** Tells what each monk likes each duty, a text for each monk. */
+    static DutiesHat tellLikings(DutiesHat x, int[][] likings) {
+        for (int m = 0; m < likings.length; m++) {
+            StringBuilder text = new StringBuilder();
+            for (int d = 0; d < likings[m].length; d++) {
+                text.append(d == 0 ? "" : ";").append("like ").append(m).append(' ').append(d).append(' ')
+                        .append(likings[m][d]);
+            }
+            tell(x, text.toString());
+        }
+        return x;
+    }
+
     static DutiesHat told(String text) {
         return tell(new DutiesHat(), text);
     }
