@@ -12,6 +12,9 @@ public final class ForetoldEdgesTest {
     /** From draw 0 by rings of two 0 trades with 1, or with 2: the ends 2 and 5. */
     private static final String FORK = "hall 3;ring 2;like 0 1 8;like 0 2 8;like 1 0 6;like 2 0 6";
 
+    /** Four draws are lawful, and by each RING they are SETTLED otherwise. */
+    private static final String EACH_RING_APART =
+            "hall 3;like 0 1 9;like 1 2 9;like 2 0 9;skill 0 0 0;skill 1 1 8";
     /** Each of seven likes any other duty more than its own by draw 0. */
     private static final String NONE_AT_ITS_OWN =
             "hall 7;like 0 0 0;like 1 1 0;like 2 2 0;like 3 3 0;like 4 4 0;like 5 5 0;like 6 6 0";
@@ -168,6 +171,12 @@ public final class ForetoldEdgesTest {
         dueEnds("by 3", laid(NONE_AT_ITS_OWN, 0), 280, 30, 147);
         dueEnds("by 2", laid(NONE_AT_ITS_OWN + ";ring 2", 0), 105, 30, 127);
         dueEnds("by 0", laid(NONE_AT_ITS_OWN + ";ring 0", 0), 1, 0, 0);
+        // All 70 are wanted, and without the last of them there would be fewer ends.
+        DutiesHat last = Check.tellLikings(Check.told("hall 7"), new int[][] {{0, 1, 1, 2, 2, 1, 1},
+            {1, 0, 1, 1, 1, 1, 1}, {3, 3, 0, 3, 3, 2, 2}, {2, 3, 3, 0, 2, 2, 3}, {1, 2, 1, 2, 0, 2, 1},
+            {1, 1, 1, 1, 1, 0, 1}, {1, 2, 2, 3, 2, 1, 0}});
+        last.lay(0);
+        dueEnds("by each of 70", last, 777, 15, 2883);
         DutiesHat x = Check.tellLikings(Check.told("hall 7;ring 2"), new int[][] {{0, 1, 4, 5, 7, 9, 1},
             {4, 1, 4, 5, 6, 2, 8}, {1, 3, 1, 6, 1, 6, 8}, {5, 6, 3, 1, 9, 5, 8}, {5, 9, 7, 2, 0, 7, 9},
             {7, 6, 8, 4, 3, 0, 6}, {6, 4, 5, 2, 1, 4, 3}});
@@ -310,6 +319,15 @@ public final class ForetoldEdgesTest {
             due("mean(least, 1, 0)", x.mean(Integer.MIN_VALUE, 1, 0), OUTSIDE);
             due("mean(greatest, 1, 0)", x.mean(Integer.MAX_VALUE, 1, 0), OUTSIDE);
         }
+        int[] glad = {OUTSIDE, 20, OUTSIDE, 24, 23, OUTSIDE};
+        int[] work = {OUTSIDE, 63, OUTSIDE, 15, 63, OUTSIDE};
+        for (int own : RINGS) {
+            DutiesHat x = Check.told(EACH_RING_APART + ";ring " + own);
+            for (int ring = -1; ring <= 4; ring++) {
+                due("of three, RING " + own + ": mean(" + ring + ", 0, 0)", x.mean(ring, 0, 0), work[ring + 1]);
+                due("of three, RING " + own + ": mean(" + ring + ", 1, 0)", x.mean(ring, 1, 0), glad[ring + 1]);
+            }
+        }
     }
 
     private static void meanWhatAndPart() {
@@ -447,6 +465,14 @@ public final class ForetoldEdgesTest {
                 due("odds(0, 1, " + row[0] + ", 1)", x.odds(0, 1, row[0], 1), row[2]);
             }
             due("odds(0, 0, 2, 0)", x.odds(0, 0, 2, 0), 0);
+        }
+        int[][] ofThree = {{0, 1, 4}, {2, 3, 4}, {3, 1, 2}};
+        for (int own : RINGS) {
+            DutiesHat x = Check.told(EACH_RING_APART + ";ring " + own);
+            for (int[] row : ofThree) {
+                due("of three: odds(1, 2, " + row[0] + ", 0)", x.odds(1, 2, row[0], 0), row[1]);
+                due("of three: odds(1, 2, " + row[0] + ", 1)", x.odds(1, 2, row[0], 1), row[2]);
+            }
         }
     }
 
