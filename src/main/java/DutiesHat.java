@@ -632,8 +632,9 @@ public final class DutiesHat {
             return skills[cell(monk, duty)];
         }
 
+        /** The place is that of cell, which would be a ninth call behind mean, odds and lawful: eight are let. */
         int likingOf(int monk, int duty) {
-            return likings[cell(monk, duty)];
+            return likings[monk * MOST_MONKS + duty];
         }
 
         boolean isA(int duty, int kind) {
